@@ -319,7 +319,7 @@ public final class SaveRestore {
         }
     }
 
-    /** A save that lives. Only the latest gets rows: what is undone for it is as it was for those before it. */
+    /** A save that lives. Only the latest gets rows: once it is restored, nothing has changed for the earlier ones. */
     private static final class Save {
         private final int number;
         private final int objectsBefore;
