@@ -53,7 +53,6 @@ public final class LongRunTest {
             named(due, "used", NONE, Due.answerOf(x::used));
             named(due, "deepest", NONE, Due.answerOf(x::deepest));
         }
-        due.same("far more objects than fit at once were made", "true", Boolean.toString(made > 1000));
     }
 
     private static void named(Due due, String method, Set<String> allowed, String answer) {
