@@ -49,7 +49,7 @@ final class Run {
         return this;
     }
 
-    private Run row(String call, String answer) {
+    Run row(String call, String answer) {
         calls.add(call);
         answers.add(answer);
         objects += call.startsWith("object(") ? 1 : 0;
